@@ -966,8 +966,9 @@ public final class GrantServer {
             for (int i = start; i < end; i++) {
                 int b = tape.at(i);
                 if (b == '%') {
-                    int high = i + 2 < end ? hexDigit(tape.at(i + 1)) : NONE;
-                    int low = i + 2 < end ? hexDigit(tape.at(i + 2)) : NONE;
+                    // What follows a part is & or = or nothing, no digit, so this stays within the part.
+                    int high = hexDigit(tape.at(i + 1));
+                    int low = hexDigit(tape.at(i + 2));
                     if (high == NONE || low == NONE) {
                         return false;
                     }

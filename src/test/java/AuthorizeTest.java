@@ -99,7 +99,7 @@ public final class AuthorizeTest {
         String start = "client_id=x&response_type=code&code_challenge_method=S256&code_challenge=";
         String[] none = {"", Kit.CHALLENGE.substring(1), Kit.CHALLENGE + "A", Kit.CHALLENGE.substring(1) + "=",
             Kit.CHALLENGE.substring(1) + ".", "~" + Kit.CHALLENGE.substring(1), Kit.CHALLENGE.substring(1) + "+",
-            Kit.CHALLENGE.substring(1) + "%2F", Kit.CHALLENGE.substring(1) + "%80"};
+            "%2F" + Kit.CHALLENGE.substring(1), Kit.CHALLENGE.substring(1) + "%2F", Kit.CHALLENGE.substring(1) + "%80"};
         for (String challenge : none) {
             Kit.due("a code_challenge of '" + challenge + "'", Kit.NONE, kit.authorize(start + challenge));
             kit.answered("a code_challenge of '" + challenge + "'", 302, 1, 25);

@@ -54,6 +54,8 @@ public final class FormTest {
         Kit values = Kit.world();
         values.authorize("client_id=%78&state=a=b+%2B%3d");
         values.answered("the first = ends the NAME", 302, 1, "u:v?error=invalid_request&state=a%3Db%20%2B%3D");
+        values.authorize("client_id=x&state=%09%9A%a9%0F%f0%5B");
+        values.answered("all digits in hex", 302, 1, "u:v?error=invalid_request&state=%09%9A%A9%0F%F0%5B");
         values.authorize("client_id=%58");
         values.answered("a byte in hex is that byte", 400, 6, 0);
     }

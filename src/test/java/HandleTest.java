@@ -4,6 +4,7 @@ public final class HandleTest {
         sixty();
         bytesHighestFirst();
         eachOnce();
+        sameNumbersInAnotherOrder();
         twoAtOnce();
         ofAllKinds();
         Kit.close();
@@ -62,6 +63,22 @@ public final class HandleTest {
         kit.consent(3, 1, 1, true);
         kit.answered("the fourth HANDLE", 302, 0, "u:v?code=" + Kit.handle(1, 2, 1, 1));
         Kit.due("none waits", 0, kit.count(2));
+    }
+
+    private static void sameNumbersInAnotherOrder() {
+        int[][] orders = {{1, 2, 3, 4}, {2, 1, 3, 4}, {1, 3, 2, 4}, {1, 2, 4, 3}, {4, 3, 2, 1}};
+        Kit kit = Kit.world();
+        for (int k = 0; k < orders.length; k++) {
+            kit.ask("x", "");
+            int[] n = orders[k];
+            kit.dice(n[0], n[1], n[2], n[3]);
+            Kit.due("a HANDLE of order " + k, k, kit.consent(k, 1, 1, true));
+        }
+        kit.ask("x", "");
+        for (int[] n : orders) {
+            kit.dice(n[0], n[1], n[2], n[3]);
+        }
+        Kit.due("all were used", Kit.STATE, Kit.thrown(() -> kit.consent(orders.length, 1, 1, true)));
     }
 
     private static void twoAtOnce() {

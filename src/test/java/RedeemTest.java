@@ -69,7 +69,7 @@ public final class RedeemTest {
 
     private static void verifiers() {
         String[] none = {"a", "a".repeat(42), "a".repeat(129), "a".repeat(42) + "+", "a".repeat(42) + "=",
-            "a".repeat(42) + "%2F", "a".repeat(42) + "%00", "a".repeat(60) + "!", "a".repeat(42) + "%e9"};
+            "%2F" + "a".repeat(42), "a".repeat(42) + "%2F", "a".repeat(42) + "%00", "a".repeat(60) + "!", "a".repeat(42) + "%e9"};
         for (String verifier : none) {
             Kit kit = Kit.world();
             kit.give("x", 1, 1, 1);
@@ -216,6 +216,9 @@ public final class RedeemTest {
         String form = START + "y&client_secret=s&redirect_uri=u:v&code_verifier=" + Kit.VERIFIER + "&code=";
         Kit.due("the CODE took the die that waited", 400, kit.token(form + Kit.handle(3)));
         Kit.due("one of one", 200, kit.token(form + Kit.handle(2)));
+        kit.give("y", 1, 5, 4);
+        Kit.due("none of one", 503, kit.token(form + Kit.handle(4)));
+        Kit.due("ACCESS tokens", 1, kit.count(7));
     }
 
     private static void tooLate() {
