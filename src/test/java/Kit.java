@@ -47,12 +47,14 @@ final class Kit {
         }
     }
 
-    /** The simple name of what a call throws. */
+    /** The simple name of what a call throws, marked if no throw statement of the class threw it. */
     static String thrown(Runnable call) {
         try {
             call.run();
         } catch (RuntimeException e) {
-            return e.getClass().getSimpleName();
+            StackTraceElement[] trace = e.getStackTrace();
+            boolean own = trace.length > 0 && trace[0].getClassName().startsWith("GrantServer");
+            return (own ? "" : "the machine's ") + e.getClass().getSimpleName();
         }
         return NO;
     }
