@@ -4,13 +4,16 @@ import java.nio.file.Files;
 import java.nio.file.Path;
 import java.util.ArrayList;
 import java.util.List;
+import java.util.Set;
+import java.util.TreeSet;
 
 /**
  * The document's words: a test names the sentence that it is of, word by word, and what no test has named is told.
  */
 final class Doc {
     private static final Path PATH = Path.of("../shared/DOC.md");
-    private static final String TEXT = read();
+    private static final String ALL = read();
+    private static final String TEXT = promised();
     private static final boolean[] NAMED = new boolean[TEXT.length()];
 
     private Doc() {
@@ -62,19 +65,36 @@ final class Doc {
         return found;
     }
 
+    /** What the document's face declares, line by line; nothing if there is no document. */
+    static Set<String> face() {
+        Set<String> lines = new TreeSet<>();
+        for (String line : ALL.split("\n")) {
+            if (line.startsWith("    public ")) {
+                lines.add(line.trim().replace(";", ""));
+            }
+        }
+        return lines;
+    }
+
     /** What the document promises, in one line, without its headings and the face's declarations. */
+    private static String promised() {
+        if (ALL.isEmpty()) {
+            return "";
+        }
+        int use = ALL.indexOf("An object is used");
+        String terms = ALL.substring(ALL.indexOf("## Terms"), ALL.indexOf("## Not promised"));
+        return (ALL.substring(use, ALL.indexOf('\n', use)) + "\n" + terms)
+            .replaceAll("(?m)^(##|```).*$", " ").replaceAll("(?m)^==== [0-9]\\.", " ")
+            .replaceAll("`[^`]*`:", " ").replaceAll("\\s+", " ");
+    }
+
     private static String read() {
         if (!Files.exists(PATH)) {
             System.out.println("no " + PATH + ": the sentences are not looked up in it");
             return "";
         }
         try {
-            String all = Files.readString(PATH);
-            int use = all.indexOf("An object is used");
-            String terms = all.substring(all.indexOf("## Terms"), all.indexOf("## Not promised"));
-            return (all.substring(use, all.indexOf('\n', use)) + "\n" + terms)
-                .replaceAll("(?m)^(##|```).*$", " ").replaceAll("(?m)^==== [0-9]\\.", " ")
-                .replaceAll("`[^`]*`:", " ").replaceAll("\\s+", " ");
+            return Files.readString(PATH);
         } catch (IOException e) {
             throw new UncheckedIOException(e);
         }

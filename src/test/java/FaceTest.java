@@ -2,23 +2,44 @@ import java.lang.reflect.Constructor;
 import java.lang.reflect.Field;
 import java.lang.reflect.Method;
 import java.lang.reflect.Modifier;
+import java.util.Arrays;
 import java.util.Set;
 import java.util.TreeSet;
+import java.util.stream.Collectors;
 
 /** Promise 1, and the public face as LANGUAGE.md's rule 1 wants it. */
 public final class FaceTest {
     private static final String[] METHODS = {
-        "int feed(int,int,int,int,int)", "boolean end(int)", "int again(int,int)",
-        "int scope()", "int client(boolean,int,boolean)",
-        "int redirect(int)", "void lives(int,int,int)", "int dice(int,int,int,int)", "int tick(int)",
-        "int authorize()", "int consent(int,int,int,boolean)", "int token()", "int revoke()", "int check(int)",
-        "int status()", "int error()", "int out(int)", "int outs()", "int code(int,int)", "int family(int,int)",
-        "int count(int)"
+        "public int feed(int a, int b, int c, int d, int e)",
+        "public boolean end(int n)",
+        "public int again(int from, int many)",
+        "public int scope() throws IllegalArgumentException, UnsupportedOperationException",
+        "public int client(boolean confidential, int scopes, boolean refresh) throws IllegalArgumentException, "
+            + "UnsupportedOperationException",
+        "public int redirect(int client) throws IndexOutOfBoundsException, IllegalArgumentException, "
+            + "UnsupportedOperationException",
+        "public void lives(int code, int access, int refresh) throws IllegalArgumentException",
+        "public int dice(int a, int b, int c, int d)",
+        "public int tick(int n) throws IllegalArgumentException",
+        "public int authorize()",
+        "public int consent(int request, int owner, int scopes, boolean yes) throws NoSuchElementException, "
+            + "IllegalArgumentException, IllegalStateException",
+        "public int token()",
+        "public int revoke()",
+        "public int check(int scope) throws IndexOutOfBoundsException",
+        "public int status()",
+        "public int error()",
+        "public int out(int i)",
+        "public int outs()",
+        "public int code(int k, int what) throws NoSuchElementException",
+        "public int family(int k, int what) throws NoSuchElementException",
+        "public int count(int what)"
     };
 
     public static void main(String[] args) {
         newObject();
         face();
+        document();
         Kit.close();
     }
 
@@ -47,10 +68,13 @@ public final class FaceTest {
         for (Method method : GrantServer.class.getDeclaredMethods()) {
             if (!Modifier.isPrivate(method.getModifiers())) {
                 found.add(told(method));
-                Kit.due(method + " is public", Modifier.PUBLIC, method.getModifiers());
             }
         }
-        Kit.due("the methods that are seen", new TreeSet<>(Set.of(METHODS)).toString(), found.toString());
+        Set<String> wanted = new TreeSet<>();
+        for (String line : METHODS) {
+            wanted.add(line.replaceAll("(int|boolean) \\w+(?=[,)])", "$1"));
+        }
+        Kit.due("the methods that are seen", wanted.toString(), found.toString());
         for (Field field : GrantServer.class.getDeclaredFields()) {
             boolean seen = !Modifier.isPrivate(field.getModifiers());
             Kit.due(field + " is seen", field.getName().equals("NONE") ? 1 : 0, seen ? 1 : 0);
@@ -61,12 +85,25 @@ public final class FaceTest {
         Kit.due("the constructor is public", Modifier.PUBLIC, made[0].getModifiers());
     }
 
+    /** A method as the document's face has it, without its parameters' names. */
     private static String told(Method method) {
-        StringBuilder text = new StringBuilder();
-        text.append(method.getReturnType()).append(' ').append(method.getName()).append('(');
-        for (int i = 0; i < method.getParameterCount(); i++) {
-            text.append(i == 0 ? "" : ",").append(method.getParameterTypes()[i]);
-        }
-        return text.append(')').toString();
+        StringBuilder text = new StringBuilder(Modifier.toString(method.getModifiers()));
+        text.append(' ').append(method.getReturnType()).append(' ').append(method.getName()).append('(');
+        text.append(listed(method.getParameterTypes())).append(')');
+        Class<?>[] thrown = method.getExceptionTypes();
+        return text.append(thrown.length == 0 ? "" : " throws " + listed(thrown)).toString();
+    }
+
+    private static String listed(Class<?>[] types) {
+        return Arrays.stream(types).map(Class::getSimpleName).collect(Collectors.joining(", "));
+    }
+
+    /** The lines above are those of the document, no fewer and no more. */
+    private static void document() {
+        Set<String> wanted = new TreeSet<>(Arrays.asList(METHODS));
+        wanted.add("public static final int NONE = -1");
+        wanted.add("public GrantServer()");
+        Set<String> found = Doc.face();
+        Kit.due("the document's face", wanted.toString(), found.isEmpty() ? wanted.toString() : found.toString());
     }
 }
